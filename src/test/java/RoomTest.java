@@ -1,0 +1,48 @@
+import com.sun.management.ThreadMXBean;
+import java.lang.management.ManagementFactory;
+
+/** All 512 calls of a run live in one room: an object is made with its rows, and calls make nothing. */
+public final class RoomTest {
+    private static final String TEXT = "land a 0 0 0 1;land b 6 0 0 1;land c 3 0 0 1;land d 1 0 0 1;land e 2 0 0 1;"
+            + "sleep box a min(600,if age less 9 then if since less 8 then 600 else 9 else (cents/7));"
+            + "sleep savings b 500-letters;pays savings 999;letter 3;";
+    private static final long BYTES_OF_AN_OBJECT = 300_000;
+    private static final long BYTES_OF_ALL_CALLS = 100_000;
+
+    public static void main(String[] args) {
+        ThreadMXBean room = (ThreadMXBean) ManagementFactory.getThreadMXBean();
+        for (int round = 0; round < 3; round++) {
+            long start = room.getCurrentThreadAllocatedBytes();
+            Bank bank = new Bank();
+            long made = room.getCurrentThreadAllocatedBytes();
+            int calls = 512 / (tapeCalls() + 10);
+            for (int i = 0; i < calls; i++) {
+                Bank.same("lands", bank.tell(TEXT), 5);
+                dearCalls(bank.it);
+            }
+            long called = room.getCurrentThreadAllocatedBytes();
+            if (round > 0) {
+                Bank.holds("an object takes " + (made - start), made - start < BYTES_OF_AN_OBJECT);
+                Bank.holds("its calls take " + (called - made), called - made < BYTES_OF_ALL_CALLS);
+            }
+        }
+        Bank.end("RoomTest");
+    }
+
+    private static int tapeCalls() {
+        return (TEXT.length() + 19) / 20 + 1;
+    }
+
+    private static void dearCalls(IdleMoney it) {
+        for (int i = 0; i < 3; i++) {
+            it.open(i == 0 ? 4 : 0, 0, 1, 100_000_000);
+        }
+        it.months(120);
+        it.soon(1);
+        it.ahead(-1, 120);
+        it.letters(120);
+        it.rescue(3, 120, 0);
+        it.undo();
+        it.undo();
+    }
+}
