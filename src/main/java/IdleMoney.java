@@ -831,7 +831,6 @@ public final class IdleMoney {
             at = 0;
             rules = draft;
             fault = 0;
-            place = NONE;
             rules.clear();
             scan(Math.max(0, Math.min(n, Math.min(tape.length, TAPE_LIMIT))));
             boolean read = true;
@@ -1549,7 +1548,6 @@ public final class IdleMoney {
             long untouched = 0;
             for (int i = 0; i < world.accountCount; i++) {
                 Account one = world.accounts[i];
-                change[i] = 0;
                 if (one.isWithBank()) {
                     candidates |= 1 << i;
                     probe.copyFrom(one);

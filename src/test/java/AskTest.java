@@ -16,6 +16,7 @@ public final class AskTest {
         rescueOfEqualOnes();
         rescueThatHarms();
         rescueOfWritten();
+        rescueAsItGoes();
         refusedForecasts();
         askedNothingChanges();
         Bank.end("AskTest");
@@ -226,6 +227,33 @@ public final class AskTest {
         Bank.same("cents", bank.it.rescue(1, 3, 1), 50);
         bank.it.months(3);
         Bank.same("what is handed can't be rescued", bank.it.rescue(3, 1, 0), 4);
+    }
+
+    /** What is forecast is what comes when the contacts are had, the months go, and all is taken back. */
+    private static void rescueAsItGoes() {
+        Bank bank = Bank.told("land a 0 90 0 1;sleep box a 4+3*letters;sleep wages a if cents less 1010 then 9 else 2;"
+                + "pays wages 700;pays box 999;letter 17;wait 1;");
+        int[] cents = {900, 950, 2000, 40, 1000, 300};
+        for (int i = 0; i < cents.length; i++) {
+            bank.it.open(i % 2 == 0 ? 1 : BOX, 0, Bank.NONE, cents[i]);
+        }
+        bank.it.months(7);
+        for (int n = 1; n <= 31; n++) {
+            int set = (int) bank.it.rescue(3, n, 0);
+            long forecast = bank.it.rescue(3, n, 1);
+            for (int i = 0; i < cents.length; i++) {
+                if ((set >> i & 1) == 1) {
+                    bank.it.contact(i);
+                }
+            }
+            Bank.same("ahead behind the rescue for " + n, bank.it.ahead(Bank.NONE, n), forecast);
+            bank.it.months(n);
+            Bank.same("held behind the rescue for " + n, bank.it.purse(0, 0), forecast);
+            for (int acts = 0; acts < 4; acts++) {
+                bank.it.undo();
+            }
+            Bank.same("month", bank.it.told(2), 7);
+        }
     }
 
     private static void refusedForecasts() {

@@ -71,6 +71,7 @@ final class Bank {
                 all.append(' ').append(it.account(account, what));
             }
             all.append(' ').append(it.sleep(account)).append(' ').append(it.soon(account));
+            all.append(' ').append(it.worth(account, 0)).append(' ').append(it.worth(account, 600));
         }
         for (int row = 0; row < it.told(6); row++) {
             all.append("\nrow");

@@ -50,6 +50,16 @@ public final class MonthTest {
         bank.it.months(110);
         bank.it.open(BOX, 0, Bank.NONE, 100);
         bank.it.open(CHEQUE, 1, Bank.NONE, 100);
+        Bank last = Bank.told("land a 0 0 0 1;sleep box a 4;");
+        for (int i = 0; i < 49; i++) {
+            last.it.months(120);
+        }
+        last.it.months(110);
+        last.it.open(BOX, 0, Bank.NONE, 100);
+        Bank.same("handed in month 6,000", last.it.soon(0), 10);
+        Bank.same("cents of it", last.it.ahead(0, 120), 100);
+        Bank.same("forecast up to it", last.it.rescue(1, 120, 1), 100);
+        Bank.same("so it goes", last.it.months(10), 1);
         bank.refuses("11 beyond", Bank.STATE, () -> bank.it.months(11));
         bank.refuses("120 beyond", Bank.STATE, () -> bank.it.months(120));
         bank.refuses("121 is none such", Bank.ARGUMENT, () -> bank.it.months(121));

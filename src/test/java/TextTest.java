@@ -7,7 +7,9 @@ public final class TextTest {
         feeding();
         wholeText();
         untold();
+        eachKind();
         telling();
+        manyTexts();
         tapeOfAText();
         firstBytesOnly();
         cannotStand();
@@ -104,15 +106,59 @@ public final class TextTest {
         Bank.same("pays 0", zero.it.pays(1), 0);
     }
 
+    private static void eachKind() {
+        String[] words = {"savings", "wages", "shares", "cheque", "box"};
+        for (int kind = 0; kind < 5; kind++) {
+            Bank bank = Bank.told("land a 0 0 0 1;sleep " + words[kind] + " a 7;pays " + words[kind] + " 12;");
+            Bank.same("takes " + words[kind], bank.it.land(0, 4), 1 << kind);
+            for (int other = 0; other < 5; other++) {
+                Bank.same(words[kind] + " pays", bank.it.pays(other), other == kind ? 12 : 0);
+                bank.it.open(other, 0, Bank.NONE, 0);
+                Bank.same(words[kind] + " sleeps", bank.it.sleep(other), other == kind ? 7 : Bank.NONE);
+            }
+        }
+    }
+
+    /** What an earlier text left behind is not read. */
+    private static void manyTexts() {
+        Bank bank = new Bank();
+        Bank.same("a word behind a word", bank.tell("wait box;"), -9);
+        Bank.same("ends where the word was", bank.tell("pays"), -9);
+        Bank.same("its place", bank.it.fault(), 4);
+        Bank.same("a letter for a number", bank.tell("home letters letters letters letters"), -9);
+        Bank.same("ends ahead of a name", bank.tell("land"), -9);
+        Bank.same("its place", bank.it.fault(), 4);
+        for (int i = 0; i < 9; i++) {
+            StringBuilder text = new StringBuilder(A + "sleep box a " + i);
+            while (text.length() < 590) {
+                text.append("+1");
+            }
+            Bank.same("a long text", bank.tell(text + ";"), 1);
+            bank.it.open(4, 0, Bank.NONE, 0);
+            Bank.same("its law", bank.it.sleep(0), i + (text.length() - 28) / 2);
+        }
+    }
+
     private static void telling() {
-        Bank bank = Bank.told("land a 1 0 100 5;sleep box a 1;letter 5;wait 0;");
-        bank.it.open(4, 0, Bank.NONE, 1000);
-        bank.it.open(4, 0, Bank.NONE, 1000);
+        Bank bank = Bank.told("land a 1 0 100 5;land b 1 0 100 5;sleep box a 1;sleep box b 1;letter 5;wait 0;"
+                + "pays box 500;");
+        for (int i = 0; i < 4; i++) {
+            bank.it.open(4, i % 2, Bank.NONE, 500_000);
+        }
+        bank.it.open(4, 0, Bank.NONE, 1);
+        bank.it.draw(0, 1);
         bank.it.months(13);
-        bank.it.claim(0);
+        bank.it.address(0, 1);
+        bank.it.pass(0);
+        bank.it.address(1, 0);
+        bank.it.pass(1);
+        bank.it.months(13);
+        for (int i = 0; i < 4; i++) {
+            Bank.holds("interest", bank.it.claim(i) > 500_000);
+        }
         bank.refuses("open", Bank.ARGUMENT, () -> bank.it.open(9, 0, 0, 0));
         Bank.same("text anew", bank.tell("land b 2 0 0 1;land c 0 0 0 1;"), 2);
-        int[] told = {2, 0, 0, 3, 0, 0, 0, 0, 0, 6};
+        int[] told = {2, 0, 0, 3, 0, 0, 0, 0, 0, 8};
         for (int what = 0; what < 10; what++) {
             Bank.same("anew: told(" + what + ")", bank.it.told(what), told[what]);
         }
@@ -121,12 +167,24 @@ public final class TextTest {
         }
         for (int what = 0; what < 4; what++) {
             Bank.same("anew: purse(0, " + what + ")", bank.it.purse(0, what), 0);
+            Bank.same("anew: purse(1, " + what + ")", bank.it.purse(1, what), 0);
         }
         Bank.same("anew: kinds", bank.it.land(0, 4), 0);
         Bank.same("anew: print()", bank.it.print(), 0);
         Bank.same("status goes on", bank.it.status(1), 1);
         bank.refuses("row", Bank.NO_SUCH, () -> bank.it.row(0, 0));
         bank.refuses("account", Bank.NO_SUCH, () -> bank.it.account(0, 0));
+        int[] fresh = {3, Bank.NONE, Bank.NONE, 60, 0, 0, 0, 0, Bank.NONE, Bank.NONE, 0};
+        for (int i = 0; i < 5; i++) {
+            bank.it.open(3, Bank.NONE, Bank.NONE, 60);
+            for (int what = 0; what < fresh.length; what++) {
+                Bank.same("anew: account(" + i + ", " + what + ")", bank.it.account(i, what), fresh[what]);
+            }
+        }
+        int[] books = {300, 0, 0, 0, 300, 0, 0};
+        for (int what = 0; what < books.length; what++) {
+            Bank.same("anew, opened: books(" + what + ")", bank.it.books(what), books[what]);
+        }
     }
 
     private static void tapeOfAText() {
@@ -159,6 +217,9 @@ public final class TextTest {
         Bank.same("600 bytes", new Bank().tell(longest.toString()), 1);
         longest.setCharAt(599, ';');
         fault(longest.toString(), 1, 599);
+        fault(longest.toString().replace(' ', '+'), 1, 4);
+        fault(longest.toString().replaceAll("(?s).", "1 ").substring(0, 600), 1, 0);
+        fault(longest.toString().replaceAll("(?s).", ";"), 1, 0);
         StringBuilder ones = new StringBuilder("land a 0 0 0 1;sleep box a 0");
         while (ones.length() < 598) {
             ones.append("+1");
@@ -214,6 +275,18 @@ public final class TextTest {
         fault("land a 0 0 0;", 1, 12);
         fault("land a 0 0 0 1,", 1, 14);
         fault("landa 0 0 0 1;", 1, 0);
+        fault("mand a 0 0 0 1;", 1, 0);
+        fault("lanx a 0 0 0 1;", 1, 0);
+        fault("land;", 1, 4);
+        fault("land a;", 1, 6);
+        fault("land a 0;", 1, 8);
+        fault("land a 0 0;", 1, 10);
+        fault(A + "sleep;", 1, 20);
+        fault(A + "sleep box;", 1, 24);
+        fault(A + "sleep fox a 1;", 1, 21);
+        fault(A + "pays;", 1, 19);
+        fault(A + "pays box;", 1, 23);
+        fault(A + "letter;", 1, 21);
         fault(A + "sleep a a 1;", 1, 21);
         fault(A + "sleep 1 a 1;", 1, 21);
         fault(A + "sleep land a 1;", 1, 21);
@@ -228,6 +301,18 @@ public final class TextTest {
         fault(A + "home 0;", 1, 20);
         fault(A + "home;", 1, 19);
         law("", 1, 0);
+        law("(", 1, 1);
+        law("min", 1, 3);
+        law("min(", 1, 4);
+        law("min(1", 1, 5);
+        law("min(1,", 1, 6);
+        law("min(1,2", 1, 7);
+        law("if", 1, 2);
+        law("if 1", 1, 4);
+        law("if 1 less", 1, 9);
+        law("if 1 less 2", 1, 11);
+        law("if 1 less 2 then", 1, 16);
+        law("if 1 less 2 then 3 else", 1, 23);
         law("x", 1, 0);
         law("a", 1, 0);
         law("-1", 1, 0);
@@ -377,6 +462,13 @@ public final class TextTest {
         law("if if if if 1 less 2 then 3 else 4", 5, 9);
         law("if if if 1 less 2 then 3 else 4 less 5 then 6 else 7 less 8 then 9 else 1", 0, 0);
         law("(if (1) less 2 then 3 else 4)", 0, 0);
+        law("if 1 less ((2)) then 3 else 4", 0, 0);
+        law("if 1 less (((2))) then 3 else 4", 5, 12);
+        law("if 1 less 2 then ((3)) else 4", 0, 0);
+        law("if 1 less 2 then (((3))) else 4", 5, 19);
+        law("if 1 less 2 then 3 else ((4))", 0, 0);
+        law("((if 1 less (2) then 3 else 4))", 5, 12);
+        law("((if 1 less 2 then min(3,3) else 4))", 5, 22);
         law("(if ((1)) less 2 then 3 else 4)", 5, 5);
         law("if 1 less 2 then 3 else 4 * (((5)))", 0, 0);
         law("if 1 less 2 then 3 else (((5)))", 5, 26);

@@ -43,6 +43,12 @@ public final class UndoTest {
         takesBack(bank, "claim", () -> bank.it.claim(0));
         bank.it.address(0, 1);
         takesBack(bank, "pass", () -> bank.it.pass(0));
+        bank.it.pass(0);
+        bank.it.months(1);
+        bank.it.claim(2);
+        Bank.holds("with interest", bank.it.purse(0, 1) > 0);
+        takesBack(bank, "a month behind a claim", () -> bank.it.months(1));
+        takesBack(bank, "claim behind a claim", () -> bank.it.claim(0));
         takesBack(bank, "text", () -> {
             bank.feed("land zz 1 2 3 4;");
             return bank.it.text(16);
@@ -98,6 +104,10 @@ public final class UndoTest {
         Bank.same("its number is free", bank.it.open(BOX, 1, 0, 60), 0);
         Bank.same("the new one", bank.it.account(0, 3), 60);
         Bank.same("brought in", bank.it.books(0), 60);
+        bank.it.undo();
+        Bank.same("no letters of it", bank.it.letters(120), 0);
+        Bank.same("no cents of it", bank.it.ahead(Bank.NONE, 120), 0);
+        Bank.same("no rescue of it", bank.it.rescue(1, 120, 0), 0);
     }
 
     private static void textIsTakenBack() {
