@@ -125,6 +125,10 @@ public final class TextTest {
         Bank.same("a word behind a word", bank.tell("wait box;"), -9);
         Bank.same("ends where the word was", bank.tell("pays"), -9);
         Bank.same("its place", bank.it.fault(), 4);
+        bank.tell("wait box;");
+        bank.feed("pays box 1;" + A);
+        Bank.same("ends where a word goes on behind it", bank.it.text(5), -9);
+        Bank.same("its place", bank.it.fault(), 5);
         Bank.same("a letter for a number", bank.tell("home letters letters letters letters"), -9);
         Bank.same("ends ahead of a name", bank.tell("land"), -9);
         Bank.same("its place", bank.it.fault(), 4);
@@ -140,7 +144,7 @@ public final class TextTest {
     }
 
     private static void telling() {
-        Bank bank = Bank.told("land a 1 0 100 5;land b 1 0 100 5;sleep box a 1;sleep box b 1;letter 5;wait 0;"
+        Bank bank = Bank.told("land a 1 9 100 5;land b 1 0 100 5;sleep box a 1;sleep box b 1;letter 5;wait 0;"
                 + "pays box 500;");
         for (int i = 0; i < 4; i++) {
             bank.it.open(4, i % 2, Bank.NONE, 500_000);
@@ -156,6 +160,7 @@ public final class TextTest {
         for (int i = 0; i < 4; i++) {
             Bank.holds("interest", bank.it.claim(i) > 500_000);
         }
+        Bank.same("nameless", bank.it.account(4, 10), 1);
         bank.refuses("open", Bank.ARGUMENT, () -> bank.it.open(9, 0, 0, 0));
         Bank.same("text anew", bank.tell("land b 2 0 0 1;land c 0 0 0 1;"), 2);
         int[] told = {2, 0, 0, 3, 0, 0, 0, 0, 0, 8};

@@ -1,6 +1,7 @@
 /** Promise 14: acts taken back, the latest first, of the latest eight. */
 public final class UndoTest {
-    private static final String TEXT = "land a 0 50 600 2;land b 6 0 0 1;sleep box a 2;sleep box b 2;letter 5;wait 1;";
+    private static final String TEXT = "land a 0 50 600 2;land b 6 0 0 1;sleep box a 2;sleep box b 2;letter 5;wait 1;"
+            + "pays box 300;";
     private static final int BOX = 4;
 
     public static void main(String[] args) {
