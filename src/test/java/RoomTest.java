@@ -13,12 +13,13 @@ public final class RoomTest {
         ThreadMXBean room = (ThreadMXBean) ManagementFactory.getThreadMXBean();
         for (int round = 0; round < 3; round++) {
             long start = room.getCurrentThreadAllocatedBytes();
-            Bank bank = new Bank();
+            IdleMoney bank = new IdleMoney();
             long made = room.getCurrentThreadAllocatedBytes();
             int calls = 512 / (tapeCalls() + 10);
             for (int i = 0; i < calls; i++) {
-                Bank.same("lands", bank.tell(TEXT), 5);
-                dearCalls(bank.it);
+                feed(bank);
+                Bank.same("lands", bank.text(TEXT.length()), 5);
+                dearCalls(bank);
             }
             long called = room.getCurrentThreadAllocatedBytes();
             if (round > 0) {
@@ -27,6 +28,13 @@ public final class RoomTest {
             }
         }
         Bank.end("RoomTest");
+    }
+
+    private static void feed(IdleMoney bank) {
+        for (int from = 0; from < TEXT.length(); from += 20) {
+            int[] five = Bank.five(TEXT, from);
+            bank.feed(five[0], five[1], five[2], five[3], five[4]);
+        }
     }
 
     private static int tapeCalls() {

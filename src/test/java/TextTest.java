@@ -1,7 +1,5 @@
 /** Promises 1 to 4: a new object, the tape, the text with its faults and their places. */
-public final class TextTest {
-    private static final String A = "land a 0 0 0 1;";
-
+public final class TextTest extends TextCase {
     public static void main(String[] args) {
         newObject();
         feeding();
@@ -235,28 +233,6 @@ public final class TextTest {
         Bank bank2 = Bank.told(ones.toString());
         bank2.it.open(4, 0, Bank.NONE, 0);
         Bank.same("a law of 570 bytes", bank2.it.sleep(0), 285);
-    }
-
-    private static void fault(String text, int what, int where) {
-        Bank bank = new Bank();
-        Bank.same("text \"" + text + "\"", bank.tell(text), what - 10);
-        Bank.same("fault() of \"" + text + "\"", bank.it.fault(), where);
-    }
-
-    private static void stands(String text) {
-        Bank bank = new Bank();
-        Bank.holds("\"" + text + "\" has no fault", bank.tell(text) > 0);
-        Bank.same("fault() of \"" + text + "\"", bank.it.fault(), Bank.NONE);
-    }
-
-    /** A law's expression behind A; the fault's place is told from the expression's first byte on. */
-    private static void law(String expression, int what, int where) {
-        String head = A + "sleep box a ";
-        if (what == 0) {
-            stands(head + expression + ";");
-        } else {
-            fault(head + expression + ";", what, head.length() + where);
-        }
     }
 
     private static void cannotStand() {
