@@ -29,9 +29,7 @@ public final class IdleMoney {
     private static final int CLAIMED = 3;
     private static final int CLOSED = 4;
 
-    private final int[] tape;
     private final Reader reader;
-    private final Rules draft;
     private final Forecast forecast;
     private final World[] past;
     private World world;
@@ -43,9 +41,7 @@ public final class IdleMoney {
     private int refusedByState;
 
     public IdleMoney() {
-        tape = new int[TAPE_LIMIT];
         reader = new Reader();
-        draft = new Rules();
         forecast = new Forecast();
         world = new World();
         past = new World[UNDO_LIMIT];
@@ -70,14 +66,14 @@ public final class IdleMoney {
     public int text(int n) throws IllegalArgumentException {
         refuseArgument(n < 0 || n > tapeLength);
         tapeLength = 0;
-        int fault = reader.read(tape, n, draft);
+        int fault = reader.read(n);
         if (fault != 0) {
             faultPlace = reader.place;
             return fault - 10;
         }
         faultPlace = NONE;
         remember();
-        world.begin(draft);
+        world.begin(reader.rules);
         return world.rules.landCount;
     }
 
@@ -260,7 +256,7 @@ public final class IdleMoney {
 
     public int pays(int kind) throws IllegalArgumentException {
         refuseArgument(!isWithin(kind, 0, KINDS - 1));
-        return world.rules.paid[kind];
+        return world.rules.rateOf(kind);
     }
 
     public int account(int account, int what) throws NoSuchElementException, IllegalArgumentException {
@@ -405,8 +401,8 @@ public final class IdleMoney {
     }
 
     private void putOnTape(int number) {
-        for (int shift = 24; shift >= 0 && tapeLength < tape.length; shift -= 8) {
-            tape[tapeLength] = (number >>> shift) & 255;
+        for (int shift = 24; shift >= 0 && tapeLength < TAPE_LIMIT; shift -= 8) {
+            reader.tape[tapeLength] = (number >>> shift) & 255;
             tapeLength++;
         }
     }
@@ -684,6 +680,11 @@ public final class IdleMoney {
             return isLand(land) && kind >= 0 && kind < KINDS && lawStart[kind * LAND_LIMIT + land] != NONE;
         }
 
+        /** What a kind pays; nothing, if there is no such kind. */
+        int rateOf(int kind) {
+            return kind >= 0 && kind < KINDS ? paid[kind] : 0;
+        }
+
         int kindsOf(int land) {
             int kinds = 0;
             for (int kind = 0; kind < KINDS; kind++) {
@@ -813,7 +814,9 @@ public final class IdleMoney {
         static final int A_NUMBER = 257;
         static final int THE_END = 258;
 
-        private int[] bytes;
+        final int[] tape = new int[TAPE_LIMIT];
+        /** What the latest text tells; it is whole only if there was no fault. */
+        final Rules rules = new Rules();
         private final int[] sorts = new int[TAPE_LIMIT + 1];
         private final int[] starts = new int[TAPE_LIMIT + 1];
         private final int[] ends = new int[TAPE_LIMIT + 1];
@@ -821,18 +824,15 @@ public final class IdleMoney {
         private final Word[] words = new Word[TAPE_LIMIT + 1];
         private int at;
         private int number;
-        private Rules rules;
         private int fault;
         int place;
 
-        /** Answers the fault, whose place is kept, or 0. */
-        int read(int[] tape, int n, Rules draft) {
-            bytes = tape;
+        /** Reads the first n bytes of the tape. Answers the fault, whose place is kept, or 0. */
+        int read(int n) {
             at = 0;
-            rules = draft;
             fault = 0;
             rules.clear();
-            scan(Math.max(0, Math.min(n, Math.min(tape.length, TAPE_LIMIT))));
+            scan(Math.max(0, Math.min(n, TAPE_LIMIT)));
             boolean read = true;
             for (int lines = 0; lines <= TAPE_LIMIT && read && sorts[at] != THE_END; lines++) {
                 read = readLine() && takeSign(';');
@@ -851,7 +851,7 @@ public final class IdleMoney {
         private void scan(int length) {
             int count = 0;
             for (int i = 0; i < length; i++) {
-                int sort = sortOf(bytes[i]);
+                int sort = sortOf(tape[i]);
                 boolean goesOn = (sort == A_WORD || sort == A_NUMBER)
                         && count > 0 && sorts[count - 1] == sort && ends[count - 1] == i;
                 if (goesOn) {
@@ -867,7 +867,7 @@ public final class IdleMoney {
             starts[count] = length;
             ends[count] = length;
             for (int i = 0; i <= count; i++) {
-                words[i] = Word.of(bytes, starts[i], ends[i]);
+                words[i] = Word.of(tape, starts[i], ends[i]);
             }
         }
 
@@ -884,8 +884,15 @@ public final class IdleMoney {
             return false;
         }
 
+        /** Behind the last token there is the end, behind which there is none. */
+        private void step() {
+            if (at < TAPE_LIMIT) {
+                at++;
+            }
+        }
+
         private boolean takeSign(int sign) {
-            if (sorts[at] != sign) {
+            if (at >= TAPE_LIMIT || sorts[at] != sign) {
                 return false;
             }
             at++;
@@ -893,7 +900,7 @@ public final class IdleMoney {
         }
 
         private boolean takeWord(Word wanted) {
-            if (words[at] != wanted) {
+            if (at >= TAPE_LIMIT || words[at] != wanted) {
                 return false;
             }
             at++;
@@ -906,13 +913,13 @@ public final class IdleMoney {
                 return false;
             }
             number = 0;
-            for (int i = starts[at]; i < ends[at]; i++) {
-                number = Math.min(NUMBER_LIMIT + 1, 10 * number + bytes[i] - '0');
+            for (int i = starts[at]; i < ends[at] && i < tape.length; i++) {
+                number = Math.min(NUMBER_LIMIT + 1, 10 * number + tape[i] - '0');
             }
             if (number < least || number > most) {
                 return fail(WRONG_NUMBER);
             }
-            at++;
+            step();
             return true;
         }
 
@@ -942,16 +949,16 @@ public final class IdleMoney {
             if (rules.landCount >= LAND_LIMIT) {
                 return fail(SIXTH_LAND);
             }
-            at++;
+            step();
             if (!isName()) {
                 return false;
             }
-            if (rules.landCalled(bytes, starts[at], ends[at]) != NONE) {
+            if (rules.landCalled(tape, starts[at], ends[at]) != NONE) {
                 return fail(WRONG_NAME);
             }
             Land land = rules.lands[rules.landCount];
-            land.call(bytes, starts[at], ends[at]);
-            at++;
+            land.call(tape, starts[at], ends[at]);
+            step();
             if (!takeNumber(0, 11)) {
                 return false;
             }
@@ -977,7 +984,7 @@ public final class IdleMoney {
             if (kind == NONE) {
                 return false;
             }
-            at++;
+            step();
             int land = toldLandInHand();
             if (land == NONE) {
                 return false;
@@ -985,7 +992,7 @@ public final class IdleMoney {
             if (rules.takes(kind, land)) {
                 return fail(SECOND_LAW);
             }
-            at++;
+            step();
             int start = rules.codeLength;
             if (!readSum(0)) {
                 return false;
@@ -1002,7 +1009,7 @@ public final class IdleMoney {
             if (rules.paid[kind] != NONE) {
                 return fail(SECOND_LAW);
             }
-            at++;
+            step();
             if (!takeNumber(0, 999)) {
                 return false;
             }
@@ -1032,7 +1039,7 @@ public final class IdleMoney {
                 return false;
             }
             rules.home = land;
-            at++;
+            step();
             return true;
         }
 
@@ -1043,7 +1050,7 @@ public final class IdleMoney {
                     return false;
                 }
                 rules.addToOrder(which);
-                at++;
+                step();
             }
             return true;
         }
@@ -1071,7 +1078,7 @@ public final class IdleMoney {
             if (!isName()) {
                 return NONE;
             }
-            int land = rules.landCalled(bytes, starts[at], ends[at]);
+            int land = rules.landCalled(tape, starts[at], ends[at]);
             if (land == NONE) {
                 fail(WRONG_NAME);
             }
@@ -1087,7 +1094,7 @@ public final class IdleMoney {
             boolean read = readFactor(depth);
             for (int i = 0; i <= TAPE_LIMIT && read && signInHand() != 0; i++) {
                 int sign = signInHand();
-                at++;
+                step();
                 if (sign == Rules.ADD || sign == Rules.SUBTRACT) {
                     rules.addSign(putOff);
                     putOff = sign;
@@ -1131,7 +1138,7 @@ public final class IdleMoney {
             int push = pushInHand();
             if (push != 0) {
                 rules.addCode(push);
-                at++;
+                step();
                 return true;
             }
             if (!takeNumber(0, NUMBER_LIMIT)) {
@@ -1145,7 +1152,7 @@ public final class IdleMoney {
             if (depth >= DEPTH_LIMIT) {
                 return fail(FOURTH_LEVEL);
             }
-            at++;
+            step();
             if (!readFactor(depth + 1) || !takeWord(Word.LESS) || !readFactor(depth + 1)) {
                 return false;
             }
@@ -1167,7 +1174,7 @@ public final class IdleMoney {
             if (depth >= DEPTH_LIMIT) {
                 return fail(FOURTH_LEVEL);
             }
-            at++;
+            step();
             if (!readSum(depth + 1)) {
                 return false;
             }
@@ -1280,7 +1287,7 @@ public final class IdleMoney {
 
         /** One month of an account that is with the bank; next is the month that comes by it. */
         void goMonth(Rules rules, int next) {
-            credit(rules.paid[kind]);
+            credit(rules.rateOf(kind));
             age++;
             since++;
             int land = rules.landOf(this);

@@ -6,8 +6,8 @@ public final class RoomTest {
     private static final String TEXT = "land a 0 0 0 1;land b 6 0 0 1;land c 3 0 0 1;land d 1 0 0 1;land e 2 0 0 1;"
             + "sleep box a min(600,if age less 9 then if since less 8 then 600 else 9 else (cents/7));"
             + "sleep savings b 500-letters;pays savings 999;letter 3;";
-    private static final long BYTES_OF_AN_OBJECT = 300_000;
-    private static final long BYTES_OF_ALL_CALLS = 100_000;
+    /** 600,000 objects of sixteen bytes each, the least that the machine makes: a room for objects and fields alike. */
+    private static final long ROOM = 9_600_000;
 
     public static void main(String[] args) {
         ThreadMXBean room = (ThreadMXBean) ManagementFactory.getThreadMXBean();
@@ -23,8 +23,8 @@ public final class RoomTest {
             }
             long called = room.getCurrentThreadAllocatedBytes();
             if (round > 0) {
-                Bank.holds("an object takes " + (made - start), made - start < BYTES_OF_AN_OBJECT);
-                Bank.holds("its calls take " + (called - made), called - made < BYTES_OF_ALL_CALLS);
+                Bank.holds("an object takes " + (made - start), made - start < ROOM / 8);
+                Bank.holds("its calls take " + (called - made), called - made < ROOM / 8);
             }
         }
         Bank.end("RoomTest");

