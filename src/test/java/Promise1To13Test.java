@@ -15,6 +15,7 @@ public final class Promise1To13Test extends TextCase {
         textFirstBytes();
         textBytesOfTheTape();
         textTellsAllAnew();
+        textsOneBehindAnother();
         textWithAFault();
         faultOfTheLatestText();
         faultsPlaces();
@@ -208,14 +209,20 @@ public final class Promise1To13Test extends TextCase {
     private static void textTellsAllAnew() {
         Bank.sentence("Promise 3: tell all anew (no ACCOUNTS, MONTH 0, an empty book)");
         Bank bank = Bank.told("land a 0 50 600 2;land b 0 0 0 1;sleep box a 1;sleep box b 1;pays box 999;pays wages 5;"
-                + "wait 0;letter 9;home b;order birth;");
-        for (int i = 0; i < 12; i++) {
-            bank.it.open(BOX, i % 2, i % 2, 5000 * i);
+                + "wait 0;letter 9;home b;order address;");
+        for (int i = 0; i < 10; i++) {
+            bank.it.open(BOX, 0, i == 4 ? 0 : i % 2, 5000 * i);
         }
-        bank.it.months(12);
-        bank.it.address(1, 0);
+        bank.it.months(13);
         bank.it.months(5);
         bank.it.claim(2);
+        bank.it.address(4, 1);
+        bank.it.pass(4);
+        bank.it.open(BOX, 0, 0, 9000);
+        bank.it.open(BOX, 0, 0, 9000);
+        bank.it.draw(10, 70);
+        bank.it.close(11);
+        Bank.holds("passed on, paid, taken out", bank.it.purse(1, 3) * bank.it.purse(0, 1) * bank.it.books(2) > 0);
         Bank fresh = Bank.told("land c 3 4 5 6;sleep wages c 9;");
         Bank.same("lands", bank.tell("land c 3 4 5 6;sleep wages c 9;"), 1);
         Bank.alike("as in a new object", bank.twin().world(), fresh.world());
@@ -226,6 +233,31 @@ public final class Promise1To13Test extends TextCase {
         bank.it.months(50);
         fresh.it.months(50);
         Bank.alike("it goes as in a new object", bank.twin().world(), fresh.twin().world());
+    }
+
+    private static void textsOneBehindAnother() {
+        Bank.sentence("Promise 3: tell all anew: nothing of the text before, of its bytes, of its laws");
+        Bank bank = new Bank();
+        StringBuilder law = new StringBuilder(A + "sleep box a 7");
+        while (law.length() < 590) {
+            law.append("+1");
+        }
+        for (int i = 0; i < 12; i++) {
+            Bank.same("a long law", bank.tell(law + ";"), 1);
+            bank.it.open(BOX, 0, Bank.NONE, 0);
+            Bank.same("its sleep", bank.it.sleep(0), 7 + (law.length() - 28) / 2);
+        }
+        String[] before = {"wait box;", "home letters letters letters", "pays box 1;" + A, "order home home home", "land letter"};
+        String[] then = {"pays", "land", "pays ", "order", "land "};
+        for (int i = 0; i < before.length; i++) {
+            bank.tell(before[i]);
+            Bank.same("\"" + then[i] + "\" behind \"" + before[i] + "\"", bank.tell(then[i]), CANNOT_STAND - 10);
+            Bank.same("its place", bank.it.fault(), then[i].length());
+            bank.feed(before[i]);
+            int first = then[i].trim().length();
+            Bank.same("the first bytes of it", bank.it.text(first), CANNOT_STAND - 10);
+            Bank.same("their place", bank.it.fault(), first);
+        }
     }
 
     private static void textWithAFault() {

@@ -28,9 +28,11 @@ public final class Terms1Test extends TextCase {
         minOfTwo();
         numbers();
         lettersOfWords();
+        lettersOfEachWord();
         digitsOfNumbers();
         blanks();
         cannotStandAtTheLength();
+        linesThatStopShort();
         longWords();
         secondOfOnce();
         numberThatIsNoneSuch();
@@ -152,6 +154,18 @@ public final class Terms1Test extends TextCase {
         bank.it.open(4, 0, Bank.NONE, 0);
         Bank.same("the sum of a whole text", bank.it.sleep(0), (sum.length() - 28) / 2);
         fault(sum + "    ", CANNOT_STAND, 600);
+        for (String one : new String[] {";", "(", "1 ", "a ", "1a", "+", "#"}) {
+            StringBuilder tokens = new StringBuilder();
+            while (tokens.length() < 600) {
+                tokens.append(one);
+            }
+            fault(tokens.toString(), CANNOT_STAND, 0);
+        }
+        StringBuilder products = new StringBuilder(A + "sleep box a 1");
+        while (products.length() < 598) {
+            products.append("*1");
+        }
+        stands(products + " ;");
     }
 
     private static void linesNoneOrMany() {
@@ -404,6 +418,27 @@ public final class Terms1Test extends TextCase {
         stands("land az 0 0 0 1;home az;");
     }
 
+    private static void lettersOfEachWord() {
+        Bank.sentence("Terms 1: the words of the language, letter by letter");
+        String[] lines = {"land b 0 0 0 1;", "sleep box a 1;", "pays savings 1;", "pays wages 1;", "pays shares 1;",
+            "pays cheque 1;", "pays box 1;", "wait 1;", "letter 1;", "home a;", "order address birth home;",
+            "sleep box a cents+age+since+letters;", "sleep box a min(1,2)-if 1 less 2 then 3 else 4;"};
+        for (String line : lines) {
+            stands(A + line);
+            int word = 0;
+            for (int i = 0; i < line.length(); i++) {
+                boolean letter = line.charAt(i) >= 'a' && line.charAt(i) <= 'z';
+                boolean begins = i == 0 || line.charAt(i - 1) < 'a' || line.charAt(i - 1) > 'z';
+                word = begins ? i : word;
+                boolean name = line.startsWith(" a ", i - 1) || line.startsWith(" b ", i - 1) || line.startsWith(" a;", i - 1);
+                if (letter && !name) {
+                    String other = line.substring(0, i) + (line.charAt(i) == 'q' ? 'x' : 'q') + line.substring(i + 1);
+                    fault(A + other, CANNOT_STAND, 15 + word);
+                }
+            }
+        }
+    }
+
     private static void digitsOfNumbers() {
         Bank.sentence("Terms 1: numbers are as many digits as stand there");
         stands(A + "wait 09;");
@@ -456,6 +491,30 @@ public final class Terms1Test extends TextCase {
             fault(text, CANNOT_STAND, text.length());
             fault(text + " ", CANNOT_STAND, text.length() + 1);
             fault(text + "   ", CANNOT_STAND, text.length() + 3);
+        }
+    }
+
+    private static void linesThatStopShort() {
+        Bank.sentence("Terms 1: fault 1: what can't stand there: a LINE that stops short, one that goes on");
+        String[] lines = {"land b", "land b 0", "land b 0 0", "land b 0 0 0", "land", "sleep", "sleep box", "sleep box a",
+            "sleep box a 1+", "sleep box a (1", "sleep box a min(1", "sleep box a min(1,", "sleep box a min(1,2",
+            "sleep box a if 1", "sleep box a if 1 less", "sleep box a if 1 less 2 then 3", "pays", "pays box", "wait", "letter",
+            "home", "order"};
+        for (String line : lines) {
+            fault(A + line + ";", CANNOT_STAND, 15 + line.length());
+            fault(A + line + " ;", CANNOT_STAND, 16 + line.length());
+            fault(A + line + ";" + A, CANNOT_STAND, 15 + line.length());
+        }
+        String[] whole = {"land b 0 0 0 1", "sleep box a 1", "sleep box a (1)", "sleep box a min(1,2)", "sleep box a age",
+            "sleep box a if 1 less 2 then 3 else 4", "pays box 1", "wait 1", "letter 1", "home a", "order home",
+            "order address birth home"};
+        for (String line : whole) {
+            stands(A + line + ";");
+            for (String more : new String[] {" 1", " a", ",", ")", " box", "(", ":"}) {
+                int place = 15 + line.length() + (more.charAt(0) == ' ' ? 1 : 0);
+                fault(A + line + more + ";", CANNOT_STAND, place);
+                fault(A + line + more, CANNOT_STAND, place);
+            }
         }
     }
 

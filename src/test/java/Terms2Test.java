@@ -21,6 +21,7 @@ public final class Terms2Test extends TextCase {
         productsThatWrapAround();
         firstBelowTheSecond();
         zeroToSixHundred();
+        deepest();
         interestIsCut();
         interestUpToTheMost();
         byTheMonthThatIsNext();
@@ -250,6 +251,19 @@ public final class Terms2Test extends TextCase {
         sleeps("65536*65536", 600);
         sleeps("65536*65536+1", 600);
         sleeps("32768*65536", 600);
+    }
+
+    private static void deepest() {
+        Bank.sentence("Terms 2: SLEEP: of a law as deep as one can be, each sum and product waiting");
+        String inner = "1+2*min(1,1+2*min(1,1+2*min(1,1+2*3)))";
+        sleeps(inner, 3);
+        sleeps("500-1*min(900,200-1*min(900,300-1*min(900,400-1*40)))", 240);
+        sleeps("9-1*if 2 less 1 then 0 else if 2 less 1 then 0 else if 2 less 1 then 0 else 4", 5);
+        sleeps("9-1*if 1 less 2 then if 1 less 2 then if 1 less 2 then 4 else 0 else 0 else 0", 5);
+        sleeps("9-1*if if if 1 less 2 then 3 else 0 less 4 then 5 else 0 less 6 then 7 else 0", 2);
+        sleeps("9-1*if 0 less if 0 less if 0 less 1 then 2 else 3 then 4 else 5 then 6 else 8", 3);
+        sleeps("1+2*(1+2*(1+2*(1+2*3)))", 63);
+        sleeps("1-2*(1-2*(1-2*(1-2*3)))", 43);
     }
 
     private static void interestIsCut() {

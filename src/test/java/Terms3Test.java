@@ -171,12 +171,35 @@ public final class Terms3Test extends TextCase {
         sure.it.open(BOX, 0, Bank.NONE, 7);
         sure.it.months(6);
         Bank.same("what is not handed at all is not rescued", sure.it.rescue(1, 12, 0), 2);
+        Bank more = Bank.told(A + "sleep box a if age less 40 then 4 else 1;pays box 999;letter 9;wait 1;");
+        more.it.open(BOX, 0, Bank.NONE, 100_000);
+        more.it.open(BOX, 0, Bank.NONE, 100_100);
+        more.it.months(11);
+        long both = more.it.ahead(0, 13);
+        Bank.same("what they have by then", more.it.rescue(1, 12, 0), 2);
+        Bank.same("handed a year later, with more interest", more.it.rescue(2, 13, 1), handedWith(more, 3, 13));
+        Bank.holds("a contact makes it more", handedWith(more, 3, 13) > both);
+        Bank.same("so just one, the one with less", more.it.rescue(1, 13, 0), 1);
+        Bank.same("and its cents", more.it.rescue(1, 13, 1), handedWith(more, 1, 13));
         Bank nameless = Bank.told("land a 0 50 0 1;sleep box a 4;");
         nameless.it.open(BOX, 0, Bank.NONE, 7);
         nameless.it.open(BOX, 0, Bank.NONE, 49);
         nameless.it.months(6);
         Bank.same("nameless ones count", nameless.it.rescue(1, 12, 0), 2);
         Bank.same("and their cents", nameless.it.rescue(1, 12, 1), 7);
+    }
+
+    /** What goes to land 0 in n MONTHS, if the accounts of the set have a contact now; a twin is asked. */
+    private static long handedWith(Bank bank, int set, int n) {
+        Bank twin = bank.twin();
+        for (int i = 0; i < 12; i++) {
+            if ((set >> i & 1) == 1) {
+                twin.it.contact(i);
+            }
+        }
+        long before = twin.it.purse(0, 2);
+        twin.go(n);
+        return twin.it.purse(0, 2) - before;
     }
 
     private static void rescueLeastAsBits() {
@@ -221,7 +244,7 @@ public final class Terms3Test extends TextCase {
         Bank.sentence("Terms 3: ACTS: text() without a FAULT, open(), contact(), deposit(), draw(), address(), close(), "
                 + "months(), claim(), pass()");
         Bank bank = new Bank();
-        act(bank, "text", () -> bank.tell("land a 0 9 500 3;land b 0 0 0 1;sleep box a 1;sleep box b 1;pays box 90;letter 2;"));
+        act(bank, "text", () -> bank.tell("land a 0 9 500 3;land b 0 0 300 1;sleep box a 1;sleep box b 1;pays box 90;letter 2;"));
         act(bank, "open", () -> bank.it.open(BOX, 0, 1, 7000));
         act(bank, "open again", () -> bank.it.open(BOX, 0, 1, 8));
         act(bank, "months", () -> bank.it.months(2));
@@ -234,6 +257,7 @@ public final class Terms3Test extends TextCase {
         act(bank, "address, the same", () -> bank.it.address(0, 1));
         act(bank, "months behind", () -> bank.it.months(5));
         act(bank, "claim", () -> bank.it.claim(0));
+        Bank.holds("with interest", bank.it.purse(1, 1) > 0);
         act(bank, "open a third", () -> bank.it.open(BOX, 0, 1, 8));
         act(bank, "close", () -> bank.it.close(2));
         act(bank, "a new text", () -> bank.tell(A));
