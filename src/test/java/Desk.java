@@ -29,6 +29,10 @@ final class Desk {
         return twin;
     }
 
+    int calls() {
+        return calls;
+    }
+
     private void count() {
         calls++;
         if (calls == MOST_CALLS + 1) {

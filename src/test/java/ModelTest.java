@@ -6,12 +6,13 @@ public final class ModelTest {
         "row", "ahead", "letters", "rescue", "books", "print", "fault"};
     private static final String[] ACTS = {"open", "open", "contact", "deposit", "draw", "address", "address", "close",
         "months", "months", "months", "months", "claim", "pass", "pass", "pass", "undo"};
-    private static final int RUNS = 240;
-    private static final int CALLS = 512;
+    private static final int RUNS = 600;
+    /** A text takes 31 calls at most, and the counts of refusals three. */
+    private static final int ROOM_FOR_A_TEXT = 34;
     private static final int TEXTS = 6000;
 
     private final Random dice;
-    private final IdleMoney program = new IdleMoney();
+    private final Desk program = new Desk();
     private final Model model = new Model();
     private final int[] refused = new int[3];
     private final int run;
@@ -39,7 +40,7 @@ public final class ModelTest {
         for (int what = 0; what < 10; what++) {
             call("told", what);
         }
-        int lands = program.told(0);
+        int lands = told(0);
         for (int land = 0; land < lands; land++) {
             for (int what = 0; what < 5; what++) {
                 call("land", land, what);
@@ -57,7 +58,7 @@ public final class ModelTest {
 
     private void longRun() {
         tell(new Texts(dice).good());
-        while (calls < CALLS - 40) {
+        while (program.calls() < Desk.MOST_CALLS - ROOM_FOR_A_TEXT) {
             if (chance(isWornOut() ? 12 : 200)) {
                 tell(chance(2) ? new Texts(dice).next() : new Texts(dice).good());
             } else if (chance(150)) {
@@ -68,10 +69,22 @@ public final class ModelTest {
             } else {
                 callOf(ASKS[dice.nextInt(ASKS.length)]);
             }
-            for (int kind = 0; kind < 3; kind++) {
-                Bank.same("run " + run + " status(" + kind + ")", program.status(kind), refused[kind]);
+            if (chance(20)) {
+                statuses();
             }
         }
+        statuses();
+    }
+
+    private void statuses() {
+        for (int kind = 0; kind < 3; kind++) {
+            Bank.same("run " + run + " status(" + kind + ")", program.status(kind), refused[kind]);
+        }
+    }
+
+    /** What the model tells: the program's calls are counted. */
+    private int told(int... a) {
+        return (int) model.call(a.length == 1 ? "told" : "account", a);
     }
 
     private boolean chance(int of) {
@@ -83,16 +96,16 @@ public final class ModelTest {
     }
 
     private int anAccount() {
-        int opened = program.told(1);
+        int opened = told(1);
         return chance(25) ? among(-1, 12, opened, Integer.MIN_VALUE) : dice.nextInt(opened + (opened == 0 ? 1 : 0));
     }
 
     /** Mostly one that is handed over, if there is one. */
     private int aHandedAccount() {
         int first = anAccount();
-        for (int i = 0; i < program.told(1) && !chance(25); i++) {
-            int account = Math.floorMod(first + i, program.told(1));
-            if (program.account(account, 4) == 2) {
+        for (int i = 0; i < told(1) && !chance(25); i++) {
+            int account = Math.floorMod(first + i, told(1));
+            if (told(account, 4) == 2) {
                 return account;
             }
         }
@@ -101,15 +114,15 @@ public final class ModelTest {
 
     /** No more accounts can be opened, and all are claimed or closed. */
     private boolean isWornOut() {
-        int alive = 12 - program.told(1);
-        for (int i = 0; i < program.told(1); i++) {
-            alive += program.account(i, 4) < 3 ? 1 : 0;
+        int alive = 12 - told(1);
+        for (int i = 0; i < told(1); i++) {
+            alive += told(i, 4) < 3 ? 1 : 0;
         }
         return alive == 0;
     }
 
     private int aLand() {
-        int lands = program.told(0);
+        int lands = told(0);
         return chance(25) ? among(-2, 5, lands, Integer.MAX_VALUE) : dice.nextInt(lands + 1) - 1;
     }
 
@@ -167,7 +180,7 @@ public final class ModelTest {
                 call(name, aHandedAccount(), chance(4) ? among(0, 600, 601, -1) : dice.nextInt(601));
                 break;
             case "row":
-                call(name, dice.nextInt(1 + program.told(6)) - (chance(20) ? 1 : 0), what(4));
+                call(name, dice.nextInt(1 + told(6)) - (chance(20) ? 1 : 0), what(4));
                 break;
             case "ahead":
                 call(name, aLand(), someMonths(120));
