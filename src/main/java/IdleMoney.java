@@ -169,7 +169,7 @@ public final class IdleMoney {
         refuseNoSuch(!world.hasAccount(account));
         Account one = world.accounts[account];
         int land = world.rules.landOf(one);
-        refuseState(one.state != HANDED || land == NONE || land == one.holder);
+        refuseState(one.state != HANDED || !world.rules.isLand(land) || land == one.holder);
         remember();
         world.passOn(one, land);
         return land;
@@ -250,7 +250,7 @@ public final class IdleMoney {
     public int letter(int land, int i) throws NoSuchElementException {
         refuseNoSuch(!world.rules.isLand(land));
         Land one = world.rules.lands[land];
-        refuseNoSuch(i < 0 || i >= one.nameLength);
+        refuseNoSuch(!one.hasLetter(i));
         return one.name[i];
     }
 
@@ -309,7 +309,7 @@ public final class IdleMoney {
     }
 
     public int row(int k, int what) throws NoSuchElementException, IllegalArgumentException {
-        refuseNoSuch(k < 0 || k >= world.rowCount);
+        refuseNoSuch(!world.hasRow(k));
         refuseArgument(!isWithin(what, 0, ROW_CELLS - 1));
         return world.book[k][what];
     }
@@ -333,27 +333,12 @@ public final class IdleMoney {
 
     public long books(int what) throws IllegalArgumentException {
         refuseArgument(!isWithin(what, 0, 6));
-        switch (what) {
-            case 0:
-                return world.centsBroughtIn();
-            case 1:
-                return world.centsCredited();
-            case 2:
-                return world.centsPaidOut();
-            case 3:
-                return world.centsOfLetters();
-            case 4:
-                return world.centsWithBank();
-            case 5:
-                return world.centsHeld();
-            default:
-                return world.centsClaimed;
-        }
+        return world.inBooks(what);
     }
 
     public long print() {
         long sum = 0;
-        for (int i = 0; i < world.accountCount; i++) {
+        for (int i = 0; i < world.accountCount && i < ACCOUNT_LIMIT; i++) {
             Account one = world.accounts[i];
             sum = 31 * sum + one.cents;
             sum = 31 * sum + one.state;
@@ -500,11 +485,15 @@ public final class IdleMoney {
             }
         }
 
+        boolean hasLetter(int i) {
+            return i >= 0 && i < nameLength && i < NAME_LIMIT;
+        }
+
         boolean isCalled(int[] bytes, int from, int to) {
             if (to - from != nameLength || from < 0 || to > bytes.length) {
                 return false;
             }
-            for (int i = 0; i < nameLength; i++) {
+            for (int i = 0; i < nameLength && i < NAME_LIMIT; i++) {
                 if (bytes[from + i] != name[i]) {
                     return false;
                 }
@@ -1219,6 +1208,7 @@ public final class IdleMoney {
         long credited;
         long paidOut;
         long letterCents;
+        long claimed;
 
         void start(int itsKind, int itsAddress, int itsBirth, int itsCents) {
             kind = itsKind;
@@ -1237,6 +1227,7 @@ public final class IdleMoney {
             credited = 0;
             paidOut = 0;
             letterCents = 0;
+            claimed = 0;
         }
 
         void copyFrom(Account other) {
@@ -1256,6 +1247,7 @@ public final class IdleMoney {
             credited = other.credited;
             paidOut = other.paidOut;
             letterCents = other.letterCents;
+            claimed = other.claimed;
         }
 
         boolean isWithBank() {
@@ -1291,7 +1283,7 @@ public final class IdleMoney {
             age++;
             since++;
             int land = rules.landOf(this);
-            if (land == NONE) {
+            if (!rules.isLand(land)) {
                 return;
             }
             if (state == AWAKE) {
@@ -1325,6 +1317,35 @@ public final class IdleMoney {
             handedMonth = month;
             nameless = cents < least;
         }
+
+        /** Answers the cents that come back. */
+        int giveBack() {
+            int back = cents;
+            claimed += back;
+            cents = 0;
+            state = CLAIMED;
+            return back;
+        }
+
+        /** Its part of what books() tells, by the same numbers. */
+        long inBooks(int what) {
+            switch (what) {
+                case 0:
+                    return broughtIn;
+                case 1:
+                    return credited;
+                case 2:
+                    return paidOut;
+                case 3:
+                    return letterCents;
+                case 4:
+                    return isWithBank() ? cents : 0;
+                case 5:
+                    return state == HANDED ? cents : 0;
+                default:
+                    return claimed;
+            }
+        }
     }
 
     /** All that undo takes back: what is told, the accounts, the book and the sums. */
@@ -1336,7 +1357,6 @@ public final class IdleMoney {
         /** An account is handed over once at most, so the book has a row for each. */
         final int[][] book = new int[ACCOUNT_LIMIT][ROW_CELLS];
         int rowCount;
-        long centsClaimed;
         final long[] interestPaid = new long[LAND_LIMIT];
         final long[] passedTo = new long[LAND_LIMIT];
 
@@ -1351,7 +1371,6 @@ public final class IdleMoney {
             accountCount = 0;
             month = 0;
             rowCount = 0;
-            centsClaimed = 0;
             for (int i = 0; i < LAND_LIMIT; i++) {
                 interestPaid[i] = 0;
                 passedTo[i] = 0;
@@ -1369,7 +1388,6 @@ public final class IdleMoney {
             accountCount = other.accountCount;
             month = other.month;
             rowCount = other.rowCount;
-            centsClaimed = other.centsClaimed;
             System.arraycopy(other.interestPaid, 0, interestPaid, 0, LAND_LIMIT);
             System.arraycopy(other.passedTo, 0, passedTo, 0, LAND_LIMIT);
         }
@@ -1378,11 +1396,15 @@ public final class IdleMoney {
             return account >= 0 && account < accountCount && account < ACCOUNT_LIMIT;
         }
 
+        boolean hasRow(int k) {
+            return k >= 0 && k < rowCount && k < ACCOUNT_LIMIT;
+        }
+
         /** Answers how many accounts were handed over. */
         int goMonth() {
             int handed = 0;
             month++;
-            for (int i = 0; i < accountCount; i++) {
+            for (int i = 0; i < accountCount && i < ACCOUNT_LIMIT; i++) {
                 Account one = accounts[i];
                 if (one.isWithBank()) {
                     one.goMonth(rules, month);
@@ -1409,19 +1431,17 @@ public final class IdleMoney {
 
         long giveBack(Account one) {
             long interest = rules.interestOf(one, month);
-            int cents = one.cents;
             if (rules.isLand(one.holder)) {
                 interestPaid[one.holder] += interest;
             }
-            centsClaimed += cents;
-            one.cents = 0;
-            one.state = CLAIMED;
-            return cents + interest;
+            return one.giveBack() + interest;
         }
 
         void passOn(Account one, int land) {
-            one.holder = land;
-            passedTo[land] += one.cents;
+            if (rules.isLand(land)) {
+                one.holder = land;
+                passedTo[land] += one.cents;
+            }
         }
 
         int landNowOf(Account one) {
@@ -1433,7 +1453,7 @@ public final class IdleMoney {
 
         int accountsHeldBy(int land) {
             int held = 0;
-            for (int i = 0; i < accountCount; i++) {
+            for (int i = 0; i < accountCount && i < ACCOUNT_LIMIT; i++) {
                 if (accounts[i].isHeldBy(land)) {
                     held |= 1 << i;
                 }
@@ -1443,7 +1463,7 @@ public final class IdleMoney {
 
         long centsHeldBy(int land) {
             long sum = 0;
-            for (int i = 0; i < accountCount; i++) {
+            for (int i = 0; i < accountCount && i < ACCOUNT_LIMIT; i++) {
                 sum += accounts[i].isHeldBy(land) ? accounts[i].cents : 0;
             }
             return sum;
@@ -1451,7 +1471,7 @@ public final class IdleMoney {
 
         long centsInRowsOf(int land) {
             long sum = 0;
-            for (int i = 0; i < rowCount; i++) {
+            for (int i = 0; i < rowCount && i < ACCOUNT_LIMIT; i++) {
                 sum += book[i][2] == land ? book[i][3] : 0;
             }
             return sum;
@@ -1459,56 +1479,16 @@ public final class IdleMoney {
 
         int lettersSent() {
             int sum = 0;
-            for (int i = 0; i < accountCount; i++) {
+            for (int i = 0; i < accountCount && i < ACCOUNT_LIMIT; i++) {
                 sum += accounts[i].letterCount;
             }
             return sum;
         }
 
-        long centsBroughtIn() {
+        long inBooks(int what) {
             long sum = 0;
-            for (int i = 0; i < accountCount; i++) {
-                sum += accounts[i].broughtIn;
-            }
-            return sum;
-        }
-
-        long centsCredited() {
-            long sum = 0;
-            for (int i = 0; i < accountCount; i++) {
-                sum += accounts[i].credited;
-            }
-            return sum;
-        }
-
-        long centsPaidOut() {
-            long sum = 0;
-            for (int i = 0; i < accountCount; i++) {
-                sum += accounts[i].paidOut;
-            }
-            return sum;
-        }
-
-        long centsOfLetters() {
-            long sum = 0;
-            for (int i = 0; i < accountCount; i++) {
-                sum += accounts[i].letterCents;
-            }
-            return sum;
-        }
-
-        long centsWithBank() {
-            long sum = 0;
-            for (int i = 0; i < accountCount; i++) {
-                sum += accounts[i].isWithBank() ? accounts[i].cents : 0;
-            }
-            return sum;
-        }
-
-        long centsHeld() {
-            long sum = 0;
-            for (int i = 0; i < accountCount; i++) {
-                sum += accounts[i].state == HANDED ? accounts[i].cents : 0;
+            for (int i = 0; i < accountCount && i < ACCOUNT_LIMIT; i++) {
+                sum += accounts[i].inBooks(what);
             }
             return sum;
         }
@@ -1530,7 +1510,7 @@ public final class IdleMoney {
         /** NONE is all lands. */
         long centsHandedTo(World world, int land, int n) {
             long sum = 0;
-            for (int i = 0; i < world.accountCount; i++) {
+            for (int i = 0; i < world.accountCount && i < ACCOUNT_LIMIT; i++) {
                 probe.copyFrom(world.accounts[i]);
                 if (runProbe(world, n) != NONE && (land == NONE || probe.holder == land)) {
                     sum += probe.cents;
@@ -1541,7 +1521,7 @@ public final class IdleMoney {
 
         int lettersSent(World world, int n) {
             int sum = 0;
-            for (int i = 0; i < world.accountCount; i++) {
+            for (int i = 0; i < world.accountCount && i < ACCOUNT_LIMIT; i++) {
                 probe.copyFrom(world.accounts[i]);
                 runProbe(world, n);
                 sum += probe.letterCount - world.accounts[i].letterCount;
@@ -1553,7 +1533,7 @@ public final class IdleMoney {
         void findRescue(World world, int k, int n) {
             int candidates = 0;
             long untouched = 0;
-            for (int i = 0; i < world.accountCount; i++) {
+            for (int i = 0; i < world.accountCount && i < ACCOUNT_LIMIT; i++) {
                 Account one = world.accounts[i];
                 if (one.isWithBank()) {
                     candidates |= 1 << i;

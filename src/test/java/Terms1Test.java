@@ -491,7 +491,13 @@ public final class Terms1Test extends TextCase {
             fault(text, CANNOT_STAND, text.length());
             fault(text + " ", CANNOT_STAND, text.length() + 1);
             fault(text + "   ", CANNOT_STAND, text.length() + 3);
+            fault(filled("", 600 - text.length()) + text, CANNOT_STAND, 600);
         }
+        fault(filled("", 580) + A + "pays", CANNOT_STAND, 599);
+        fault(filled(A, 594) + "home b", WRONG_NAME, 599);
+        fault(filled(A, 594) + "land a", WRONG_NAME, 599);
+        fault(filled(A, 593) + "wait 61", WRONG_NUMBER, 598);
+        fault(filled(A, 593) + "landabc", CANNOT_STAND, 593);
     }
 
     private static void linesThatStopShort() {
