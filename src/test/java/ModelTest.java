@@ -7,8 +7,10 @@ public final class ModelTest {
     private static final String[] ACTS = {"open", "open", "contact", "deposit", "draw", "address", "address", "close",
         "months", "months", "months", "months", "claim", "pass", "pass", "pass", "undo"};
     private static final int RUNS = 600;
-    /** A text takes 31 calls at most, and the counts of refusals three. */
-    private static final int ROOM_FOR_A_TEXT = 34;
+    /** A text takes 31 calls at most, and the counts of refusals three, behind it and at the end. */
+    private static final int ROOM_FOR_A_TEXT = 37;
+    /** Each sixth run comes near to the last month, 6,000, before all kinds of calls are made. */
+    private static final int LATE_RUNS = 6;
     private static final int TEXTS = 6000;
 
     private final Random dice;
@@ -58,6 +60,9 @@ public final class ModelTest {
 
     private void longRun() {
         tell(new Texts(dice).good());
+        if (run % LATE_RUNS == 0) {
+            goFar();
+        }
         while (program.calls() < Desk.MOST_CALLS - ROOM_FOR_A_TEXT) {
             if (chance(isWornOut() ? 12 : 200)) {
                 tell(chance(2) ? new Texts(dice).next() : new Texts(dice).good());
@@ -74,6 +79,16 @@ public final class ModelTest {
             }
         }
         statuses();
+    }
+
+    private void goFar() {
+        for (int i = 0; i < 10; i++) {
+            callOf("open");
+        }
+        for (int i = 46 + dice.nextInt(5); i > 0; i--) {
+            call("months", 120);
+            callOf(chance(2) ? "contact" : "address");
+        }
     }
 
     private void statuses() {
